@@ -224,6 +224,7 @@ public final class QuestionsInAnInn {
         int found = NONE;
         int highest = scoreNow(t);
         for (int p = 0; p < peopleCount; p++) {
+            // Who sits there already changes nothing by it, so is never the one.
             int then = scoreIf(t, there | 1 << p);
             if (then > highest) {
                 highest = then;
@@ -1096,7 +1097,9 @@ public final class QuestionsInAnInn {
             if (token != Text.MINUS && token != OPENED || open >= MOST_OPEN) return false;
             if (token == OPENED) {
                 next();
-                return readE(open + 1) && took(CLOSED);
+                if (!readE(open + 1) || token != CLOSED) return false;
+                next();
+                return true;
             }
             next();
             if (!readOne(open + 1)) return false;
@@ -1164,7 +1167,8 @@ public final class QuestionsInAnInn {
         private boolean isWord(String wanted) {
             if (wanted.length() != at - place) return false;
             for (int i = 0; i < wanted.length(); i++) {
-                if (wanted.charAt(i) != byteAt(place + i)) return false;
+                int n = place + i;
+                if (n < 0 || n >= ROOM || wanted.charAt(i) != bytes[n]) return false;
             }
             return true;
         }
