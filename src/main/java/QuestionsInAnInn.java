@@ -256,8 +256,7 @@ public final class QuestionsInAnInn {
         int found = everybody;
         for (int set = 0; set < everybody; set++) {
             boolean fewer = Integer.bitCount(set) < Integer.bitCount(found);
-            boolean before = Integer.bitCount(set) == Integer.bitCount(found) && set < found;
-            if ((fewer || before) && answers.coveredBy(set) == needed) found = set;
+            if (fewer && answers.coveredBy(set) == needed) found = set;
         }
         return what == 0 ? Integer.bitCount(found) : found;
     }

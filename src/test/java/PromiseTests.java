@@ -217,6 +217,9 @@ public final class PromiseTests {
         fault("weight " + (char) 233 + " ;", 7);
         fault("weight  loudness ;", 8);
         fault("weight loud2 ;", 11);
+        fault("weight whoz ;", 7);
+        fault("weight xsked ;", 7);
+        fault("weight dept ;", 7);
         fault("weight 12345 ;", 7);
         fault("weight 00001 ;", 7);
         fault("weight 1234 5 ;", 12);
@@ -294,6 +297,7 @@ public final class PromiseTests {
         inn = withLaw("weight depth * 100 + asked * 10 - loud ; points topic * 10 + round ; hires who * 9 + loud ;");
         due("weight of depth, asked, loud", inn.asks(0, 37, 5, 0, 0), 365);
         due("points of topic, round", inn.asks(1, 0, 0, 28, 0), 28);
+        due("points of topic 3, round 0", inn.asks(1, 0, 0, 30, 0), 30);
         due("hires of who, loud", inn.asks(2, 0, 44, 0, 6), 98);
         due("hires bound above", inn.asks(2, 0, 99, 0, 6), 99);
         inn = withLaw("weight 0 - 5000 + loud * 1000 ; points 3 - loud ; hires 1000 * loud - 5 ;");
@@ -345,6 +349,8 @@ public final class PromiseTests {
         says("not 2 < 1", 1);
         says("not 0 and 0", 0);
         says("5 and 3", 1);
+        says("1 and 2", 1);
+        says("0 and 2", 0);
         says("5 and 0", 0);
         says("0 or 0", 0);
         says("0 or -4", 1);
@@ -601,6 +607,12 @@ public final class PromiseTests {
         due("points of asked, topic, round, twice", inn.score(0, 0), 40 + 2 * (50 + 1 + 2) + (0 + 2 + 4));
         force(inn, "weight 1 ; points 200 ; hires 1 ;");
         due("points bound", inn.score(1, 0), 99 * Integer.bitCount(inn.score(1, 1)) + 99 * (inn.score(1, 1) & 1));
+        ask(inn, 3, 9);
+        due("nobody KNOWS it", inn.score(2, 2) | inn.score(1, 2) & 8, 0);
+        QuestionsInAnInn hard = new QuestionsInAnInn();
+        guest(hard, 1, 0, 3);
+        ask(hard, 0, 4, 0, 3);
+        due("nobody KNOWS the first", hard.score(0, 2), 0);
         due("no such TABLE", inn.score(3, 9), -5);
         due("no such TABLE", inn.score(-1, 0), -5);
         due("what 3", inn.score(0, 3), -7);
@@ -635,6 +647,8 @@ public final class PromiseTests {
         due("as without", inn.best(1, 1), 0);
         force(inn, "weight loud ; points 0 ; hires 1 ;");
         due("not higher", inn.best(0, 0), -1);
+        force(inn, "weight loud ; points 9 - asked ; hires 1 ;");
+        due("the first of all", inn.best(0, 0), 0);
         due("no such TABLE", inn.best(3, 9), -5);
         due("no such TABLE", inn.best(-1, 0), -5);
         due("what 2", inn.best(0, 2), -7);
@@ -729,6 +743,10 @@ public final class PromiseTests {
         due("what -1", inn.hire(0, 0, -1), -7);
         due("coin 999", inn.hire(0, 999, 1), 9);
         due("coin 0", inn.hire(0, 0, 0), -1);
+        inn.sit(0, -1);
+        due("the first of all", inn.hire(2, 1, 0), -1);
+        inn.learn(0, 1, 4);
+        due("the first of all", inn.hire(2, 1, 0), 0);
     }
 
     private static void promise23Price() {
@@ -769,6 +787,13 @@ public final class PromiseTests {
         inn.lay(2, 1);
         due("with a JOKER", inn.close(1, 0), 8);
         due("a JOKER outside counts nothing", inn.close(1, 1), 2);
+        inn.lay(2, -1);
+        inn.lay(0, 1);
+        due("with another's JOKER: 4, 0, 2 apart 4", inn.close(1, 0), 8);
+        due("of two: 4, 2, 4", inn.close(2, 0), 10);
+        due("of two: 4, 2, 4", inn.close(2, 1), 2);
+        inn.lay(0, -1);
+        inn.lay(2, 1);
         due("none", inn.close(0, 0), 0);
         due("none", inn.close(0, 1), 0);
         due("all", inn.close(4, 0), 15);
@@ -797,6 +822,9 @@ public final class PromiseTests {
         inn.lay(0, 0);
         due("what it doubles elsewhere counts", inn.good(1), 1);
         due("TABLE 1 has 1 without", inn.good(0), 2);
+        inn.lay(1, -1);
+        inn.learn(0, 0, 3);
+        due("RIGHT at 1 (1 without), not at 0 (2), 2 (0)", inn.good(0), 0);
         due("no such QUESTION", inn.good(3), -100000);
         due("no such QUESTION", inn.good(-1), -100000);
     }
@@ -983,6 +1011,9 @@ public final class PromiseTests {
         }
         due("the second one's lots come behind", second().drawn(5), lotOf(6, 5) % 3 == 2 ? 2 : 0);
         due("seed 99999", last.drawn(99999), lotOf(100000, 4) % 3 == 2 ? 1 : 0);
+        for (int p = 1; p < 7; p++) guest(last, 0, -1, p, p, p, p);
+        last.drawn(3);
+        for (int p = 1; p < 7; p++) due("it changes nobody", last.told(p, p % 4), p);
         due("seed -1", inn.drawn(-1), -2);
         due("seed 100000", inn.drawn(100000), -2);
         drawnBounds();
@@ -1048,10 +1079,13 @@ public final class PromiseTests {
         due("of four", inn.image(), 4);
         due("it changes nothing", inn.score(0, 0), 3);
         inn.learn(0, 0, 9);
+        inn.sit(0, 2);
         due("a second one", inn.image(), 4);
+        inn.sit(0, 1);
         inn.learn(0, 0, 1);
         inn.back();
         due("the second one holds", inn.told(0, 0), 9);
+        due("the second one holds", inn.told(0, 4), 2);
     }
 
     private static void promise36Back() {

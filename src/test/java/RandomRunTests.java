@@ -107,7 +107,7 @@ public final class RandomRunTests {
         }
     }
 
-    /** A call seldom asked for may still be a dear one: those that only show when much stands are kept for later. */
+    /** Calls that end what stands come seldom. */
     private static boolean isFor(String name, int lot) {
         if (name.equals("text")) return lot < 2;
         if (name.equals("back")) return lot < 15;
@@ -120,7 +120,7 @@ public final class RandomRunTests {
     private void run(int number, Method[] methods) throws ReflectiveOperationException {
         QuestionsInAnInn inn = new QuestionsInAnInn();
         Oracle oracle = new Oracle();
-        int calls = 0;
+        int calls = below(3) == 0 ? layRows(number, methods, inn, oracle) : 0;
         while (calls < CALLS) {
             if (below(40) == 0) {
                 calls += readLaw(number, inn, oracle);
@@ -133,6 +133,16 @@ public final class RandomRunTests {
             calls++;
             if (method.getName().equals("film")) calls += askTold(number, methods, inn, oracle);
         }
+    }
+
+    private int layRows(int number, Method[] methods, QuestionsInAnInn inn, Oracle oracle)
+        throws ReflectiveOperationException {
+        int sort = from(0, 2);
+        for (int s = 0; s < 4; s++) {
+            int own = below(4) == 0 ? from(0, 2) : sort;
+            compare(number, named(methods, "sheet"), inn, oracle, new int[] {s, own, from(6, 20)});
+        }
+        return 4;
     }
 
     private static Method named(Method[] methods, String name) {
